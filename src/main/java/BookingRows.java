@@ -291,14 +291,12 @@ public final class BookingRows {
         if (!calendar.isOpen(things.placeOf(thing), from, to)) {
             return CLOSED;
         }
-        if (edited == NO_BOOKING && isRefused(person)) {
+        boolean isEdit = edited != NO_BOOKING;
+        if (!isEdit && (penalties.isBarred(person, now)
+                || bookings.livingOf(person) >= MOST_LIVING)) {
             return PERSON_REFUSED;
         }
         return bookings.isTaken(thing, from, to, edited) ? TAKEN : MAY_BE;
-    }
-
-    private boolean isRefused(int person) {
-        return penalties.isBarred(person, now) || bookings.livingOf(person) >= MOST_LIVING;
     }
 
     private int lastCheckIn(int booking) {
@@ -326,7 +324,8 @@ public final class BookingRows {
         int served = 0;
         int at = 0;
         for (int left = wishes.size(); left > 0; left--) {
-            if (wishes.thingOf(at) == thing && tryWish(at) > 0) {
+            if (wishes.thingOf(at) == thing && tryBooking(wishes.personOf(at), thing,
+                    wishes.fromOf(at), wishes.toOf(at)) > 0) {
                 wishes.removeAt(at);
                 served++;
             } else {
@@ -334,11 +333,6 @@ public final class BookingRows {
             }
         }
         return served;
-    }
-
-    private int tryWish(int at) {
-        return tryBooking(wishes.personOf(at), wishes.thingOf(at),
-                wishes.fromOf(at), wishes.toOf(at));
     }
 
     /** The hours of each place on each weekday, and the holidays. */

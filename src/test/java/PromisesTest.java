@@ -127,6 +127,8 @@ public final class PromisesTest {
         due.is("a minute late", -4, x.book(0, 0, 100, 201));
         due.is("another weekday", -4, x.book(0, 0, DAY + 100, DAY + 200));
         due.is("same weekday", 2, x.book(0, 0, 7 * DAY + 100, 7 * DAY + 200));
+        due.is("same weekday, early", -4, x.book(0, 0, 7 * DAY + 99, 7 * DAY + 100));
+        due.is("same weekday, late", -4, x.book(0, 0, 7 * DAY + 200, 7 * DAY + 201));
         due.is("another place", -4, x.book(0, 1, 100, 200));
         due.is("last of both", 1, x.hours(3, 6, 0, 1440));
         due.is("last of both", 3, x.book(0, 1, 6 * DAY, 7 * DAY));
@@ -395,6 +397,20 @@ public final class PromisesTest {
         due.is("of another thing: stays", 1, x.person(6, 2));
         due.is("served later", 2, x.cancel(3, 3));
         due.is("by its turn", 4, x.booking(7, 0));
+
+        BookingRows once = open();
+        once.book(0, 0, 100, 200);
+        once.wish(1, 0, 100, 200, 0);
+        due.is("wish booked", 2, once.cancel(1, 0));
+        due.is("a wish is booked once", 1, once.cancel(2, 1));
+
+        BookingRows sixty = open();
+        sixty.book(0, 0, 100, 200);
+        for (int i = 0; i < 60; i++) {
+            sixty.wish(1 + i % 30, 0, 100, 200, 60 - i);
+        }
+        due.is("one of 60", 2, sixty.cancel(1, 0));
+        due.is("the last of them, by its rank", 30, sixty.booking(2, 0));
 
         BookingRows elsewhere = open();
         elsewhere.book(0, 0, 100, 200);
@@ -994,6 +1010,10 @@ public final class PromisesTest {
         x.tick(330);
         due.is("in all", 150, x.used(0));
         due.is("a no-show", NO_SHOW, x.booking(4, 4));
+        x.book(2, 0, 340, 370);
+        x.checkIn(5, 2);
+        x.tick(370);
+        due.is("the last booking", 180, x.used(0));
     }
 
     private static void twoObjects() {
