@@ -20,6 +20,10 @@ final class Due {
         is(call, want ? 1 : 0, got ? 1 : 0);
     }
 
+    int calls() {
+        return calls;
+    }
+
     int wrong() {
         return wrong;
     }
