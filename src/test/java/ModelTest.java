@@ -294,7 +294,7 @@ public final class ModelTest {
         answer("used", text(thing), model.used(thing), rows.used(thing));
     }
 
-    /** These looks at the state are not counted among an object's 512 calls: they change nothing. */
+    /** These looks at the state are not counted among the 512 calls: they change nothing. */
     private void wholeState() {
         for (int booking = 1; booking <= made + 1; booking++) {
             for (int what = 0; what <= 5; what++) {
