@@ -294,7 +294,7 @@ final class TickSentences {
         due.is("cancelled", Scenes.CANCELLED, x.stateOf(3));
     }
 
-    /** One of five is in and ends, so the wish of its person may be when another frees its thing. */
+    /** One of five is in and ends, so the wish of its person may be when another frees a thing. */
     private static void doneBeforeNoShows(Due due) {
         Calls x = Scenes.open();
         x.book(2, 0, 100, 900);
