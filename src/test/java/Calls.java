@@ -1,5 +1,6 @@
 import java.util.ArrayList;
 import java.util.List;
+import java.util.function.Consumer;
 import java.util.function.ToIntFunction;
 
 /**
@@ -35,6 +36,14 @@ final class Calls {
         }
         made.add(call);
         return call.applyAsInt(rows);
+    }
+
+    /** Calls after the last one of which something is promised. */
+    void later(Consumer<BookingRows> calls) {
+        if (left() > 0) {
+            throw new IllegalStateException("there are calls left");
+        }
+        calls.accept(rows);
     }
 
     int thing(int place, int least, int most, int ahead, int grace) {

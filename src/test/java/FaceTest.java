@@ -1,38 +1,27 @@
+import java.io.IOException;
 import java.lang.reflect.Constructor;
 import java.lang.reflect.Field;
 import java.lang.reflect.Method;
 import java.lang.reflect.Modifier;
+import java.nio.file.Files;
+import java.nio.file.Path;
 import java.util.ArrayList;
-import java.util.Arrays;
 import java.util.List;
 import java.util.TreeSet;
+import java.util.regex.Matcher;
+import java.util.regex.Pattern;
 
 /** The class shows the document's face, and nothing else of it can be seen (rule 1). */
 public final class FaceTest {
-    private static final String[] FACE = {
-        "int thing(int, int, int, int, int)",
-        "int hours(int, int, int, int)",
-        "int holiday(int)",
-        "int book(int, int, int, int)",
-        "int recurring(int, int, int)",
-        "int cancel(int, int)",
-        "int checkIn(int, int)",
-        "int edit(int, int, int, int)",
-        "int equip(int, int)",
-        "int wish(int, int, int, int, int)",
-        "int tick(int)",
-        "boolean clash(int, int)",
-        "int booking(int, int)",
-        "int list(int, int)",
-        "int person(int, int)",
-        "int used(int)",
-    };
+    private static final Pattern METHOD = Pattern.compile("public (\\w+) (\\w+)\\((.*)\\)");
+    private static final int METHODS = 16;
 
     private static final Due due = new Due();
 
-    public static void main(String[] args) {
+    public static void main(String[] args) throws IOException {
         due.promise("the face");
         theClass();
+        theWords();
         theConstructor();
         theMethods();
         theFields();
@@ -47,6 +36,15 @@ public final class FaceTest {
         due.is("without a package", true, BookingRows.class.getPackageName().isEmpty());
     }
 
+    /** The names of parameters, too, are those of the document; only the source has them. */
+    private static void theWords() throws IOException {
+        String source = Files.readString(Path.of("src/main/java/BookingRows.java"));
+        for (String member : Document.face()) {
+            due.is(member, true, source.contains("\n    " + member + " {\n")
+                    || source.contains("\n    " + member + ";\n"));
+        }
+    }
+
     private static void theConstructor() {
         Constructor<?>[] constructors = BookingRows.class.getDeclaredConstructors();
         due.is("constructors", 1, constructors.length);
@@ -54,7 +52,20 @@ public final class FaceTest {
         due.is("public", true, Modifier.isPublic(constructors[0].getModifiers()));
     }
 
-    private static void theMethods() {
+    /** The methods of the document's face, without the names of their parameters. */
+    private static TreeSet<String> face() throws IOException {
+        TreeSet<String> methods = new TreeSet<>();
+        for (String member : Document.face()) {
+            Matcher method = METHOD.matcher(member);
+            if (method.matches()) {
+                methods.add(method.group(1) + " " + method.group(2) + "("
+                        + method.group(3).replaceAll(" \\w+(?=,|$)", "") + ")");
+            }
+        }
+        return methods;
+    }
+
+    private static void theMethods() throws IOException {
         TreeSet<String> shown = new TreeSet<>();
         TreeSet<String> shownNames = new TreeSet<>();
         List<String> privateNames = new ArrayList<>();
@@ -66,7 +77,8 @@ public final class FaceTest {
                 shownNames.add(method.getName());
             }
         }
-        due.is("shown are " + shown, true, shown.equals(new TreeSet<>(Arrays.asList(FACE))));
+        due.is("methods of the face", METHODS, face().size());
+        due.is("shown are " + shown, true, shown.equals(face()));
         for (String name : privateNames) {
             due.is("a private method bears a public one's name: " + name, false,
                     shownNames.contains(name));

@@ -1,6 +1,7 @@
 import java.io.IOException;
 import java.nio.file.Files;
 import java.nio.file.Path;
+import java.util.TreeSet;
 import java.util.regex.Matcher;
 import java.util.regex.Pattern;
 
@@ -29,8 +30,22 @@ public final class LanguageTest {
             Matcher found = Pattern.compile(pattern).matcher(code);
             due.is(pattern + " is there", false, found.find());
         }
+        ownClassesAlone(code);
         methods(code.split("\n"));
         due.end();
+    }
+
+    /** No class of the library is used, so none is that the rules do not list. */
+    private static void ownClassesAlone(String code) {
+        TreeSet<String> own = new TreeSet<>();
+        Matcher declared = Pattern.compile("\\bclass (\\w+)").matcher(code);
+        while (declared.find()) {
+            own.add(declared.group(1));
+        }
+        Matcher used = Pattern.compile("\\b[A-Z]\\w*[a-z]\\w*").matcher(code);
+        while (used.find()) {
+            due.is(used.group() + " is an own class", true, own.contains(used.group()));
+        }
     }
 
     private static void methods(String[] lines) {

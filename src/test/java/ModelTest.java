@@ -3,9 +3,9 @@ import java.util.Map;
 import java.util.Random;
 import java.util.TreeMap;
 
-/** Random runs of calls, each answer compared with the plain model's; the seeds are fixed. */
+/** Random runs of 512 calls, each answer compared with the plain model's; the seeds are fixed. */
 public final class ModelTest {
-    private static final int RUNS = 1500;
+    private static final int RUNS = 5000;
     private static final int CALLS = 512;
     private static final int[] WILD = {
         Integer.MIN_VALUE, Integer.MIN_VALUE + 1, -1441, -2, -1, 0, 1, 2, 29, 30, 39, 40, 41, 60,
@@ -25,6 +25,7 @@ public final class ModelTest {
     private final int haste;
     private int now = 0;
     private int made = 0;
+    private int calls = 0;
 
     private ModelTest(Due due, long seed, Map<String, Integer> seen) {
         this.due = due;
@@ -63,6 +64,11 @@ public final class ModelTest {
         for (String answer : answers) {
             due.is(answer, true, seen.getOrDefault(answer, 0) > 100);
         }
+        due.promise("the last call of a run, the " + CALLS + "th, was each at least once");
+        for (String answer : answers) {
+            String name = answer.substring(0, answer.indexOf(' '));
+            due.is(name, true, seen.containsKey("the last was " + name));
+        }
     }
 
     private void run() {
@@ -72,7 +78,7 @@ public final class ModelTest {
         for (int i = 0; i < 12; i++) {
             hours();
         }
-        for (int call = 12 + things; call < CALLS && due.wrong() == 0; call++) {
+        while (calls < CALLS && due.wrong() == 0) {
             any();
         }
     }
@@ -136,11 +142,15 @@ public final class ModelTest {
     }
 
     private void answer(String name, String arguments, int want, int got) {
+        calls++;
         due.is(name + arguments, want, got);
         String kind = want > 0 ? "+" : String.valueOf(want);
         seen.merge(name + " " + kind, 1, Integer::sum);
         if (name.equals("cancel") && want > 1) {
             seen.merge("cancel ++", 1, Integer::sum);
+        }
+        if (calls == CALLS) {
+            seen.merge("the last was " + name, 1, Integer::sum);
         }
     }
 
@@ -206,7 +216,7 @@ public final class ModelTest {
         answer("cancel", text(booking, person), model.cancel(booking, person),
                 rows.cancel(booking, person));
         countMade();
-        wholeState();
+        lookAround();
     }
 
     private void checkIn() {
@@ -260,7 +270,7 @@ public final class ModelTest {
         answer("tick", text(t), want, rows.tick(t));
         now = want == -1 ? now : t;
         countMade();
-        wholeState();
+        lookAround();
     }
 
     private void clash() {
@@ -294,19 +304,17 @@ public final class ModelTest {
         answer("used", text(thing), model.used(thing), rows.used(thing));
     }
 
-    /** These looks at the state are not counted among the 512 calls: they change nothing. */
-    private void wholeState() {
-        for (int booking = 1; booking <= made + 1; booking++) {
-            for (int what = 0; what <= 5; what++) {
-                due.is("booking" + text(booking, what), model.booking(booking, what),
-                        rows.booking(booking, what));
-            }
+    /** What a cancel or a tick has done is looked at, as far as calls are left. */
+    private void lookAround() {
+        for (int back = 0; back < 4 && calls < CALLS; back++) {
+            int booking = Math.max(1, made - back);
+            answer("booking", text(booking, 4), model.booking(booking, 4),
+                    rows.booking(booking, 4));
         }
-        for (int person = 0; person < persons; person++) {
-            for (int what = 0; what <= 2; what++) {
-                due.is("person" + text(person, what), model.person(person, what),
-                        rows.person(person, what));
-            }
+        int person = random.nextInt(persons);
+        for (int what = 0; what <= 2 && calls < CALLS; what++) {
+            answer("person", text(person, what), model.person(person, what),
+                    rows.person(person, what));
         }
     }
 }

@@ -1,14 +1,11 @@
 import java.io.IOException;
-import java.nio.file.Files;
-import java.nio.file.Path;
 
-/** Each sentence of the document, from its terms to its last promise, has a test of its own. */
+/** Each sentence of the document, from its first to its last promise, has a test of its own. */
 public final class SentencesTest {
-    private static final Path DOCUMENT = Path.of("../shared/DOC.md");
-
     public static void main(String[] args) throws IOException {
         Due due = new Due();
         Sentences sentences = new Sentences();
+        WhatItIsSentences.say(sentences);
         TermsSentences.say(sentences);
         MayBeSentences.say(sentences);
         WaitingSentences.say(sentences);
@@ -20,18 +17,8 @@ public final class SentencesTest {
         LookSentences.say(sentences);
         sentences.show(due);
         due.promise("the document");
-        compare(due, promised(Files.readString(DOCUMENT)), sentences.words());
+        compare(due, Document.words(), sentences.words());
         due.end();
-    }
-
-    /** The words of the terms and the promises, without headings and the forms of the calls. */
-    private static String promised(String document) {
-        int first = Math.max(0, document.indexOf("## Terms"));
-        int last = Math.max(first, document.indexOf("## Not promised"));
-        return document.substring(first, last)
-                .replaceAll("(?m)^#.*$", "")
-                .replaceAll("(?m)^`[^`]*`: ", "")
-                .replaceAll("\\s+", " ").trim();
     }
 
     private static void compare(Due due, String document, String tested) {
