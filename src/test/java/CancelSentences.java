@@ -139,17 +139,8 @@ final class CancelSentences {
         due.is("what is in still takes its thing", -6, x.book(2, 1, 100, 200));
     }
 
-    /** With its equipment the person has six, and so no wish, until all of it is cancelled. */
     private static void afterAllIsCancelled(Due due) {
-        Calls x = Scenes.booked();
-        x.book(2, 0, 300, 400);
-        x.wish(1, 0, 300, 350, 0);
-        for (int i = 0; i < 3; i++) {
-            x.book(1, 3, 1000 + i * 10, 1010 + i * 10);
-        }
-        x.equip(1, 1);
-        x.equip(1, 2);
-        x.edit(2, 2, 500, 600);
+        Calls x = Scenes.sixWithEquipment();
         due.is("its wish is booked", 2, x.cancel(1, 1));
         due.is("as its fourth", 1, x.personOf(8));
     }

@@ -1,11 +1,11 @@
 /** Each promise of the document with ordinary inputs, the edges it names, and wrong inputs. */
 public final class PromisesTest {
-    private static final int DAY = 1440;
-    private static final int BOOKED = 0;
-    private static final int IN = 1;
-    private static final int DONE = 2;
-    private static final int CANCELLED = 3;
-    private static final int NO_SHOW = 4;
+    private static final int DAY = Scenes.DAY;
+    private static final int BOOKED = Scenes.BOOKED;
+    private static final int IN = Scenes.IN;
+    private static final int DONE = Scenes.DONE;
+    private static final int CANCELLED = Scenes.CANCELLED;
+    private static final int NO_SHOW = Scenes.NO_SHOW;
 
     private static final Due due = new Due();
 
@@ -41,21 +41,8 @@ public final class PromisesTest {
         due.end();
     }
 
-    /** Four things at place 0 and one at place 1, all open all day, with wide rules. */
-    private static BookingRows open() {
-        BookingRows x = new BookingRows();
-        for (int thing = 0; thing < 5; thing++) {
-            x.thing(thing < 4 ? 0 : 1, 10, 1440, 100000, 20);
-        }
-        for (int weekday = 0; weekday < 7; weekday++) {
-            x.hours(0, weekday, 0, 1440);
-            x.hours(1, weekday, 0, 1440);
-        }
-        return x;
-    }
-
     /** Fills up to 200 bookings of thing 3 that are cancelled again, so that none of them lives. */
-    private static void fillBookings(BookingRows x, int many) {
+    private static void fillBookings(Calls x, int many) {
         for (int i = 0; i < many; i++) {
             int booking = x.book(39, 3, 50000, 50100);
             x.cancel(booking, 39);
@@ -64,7 +51,7 @@ public final class PromisesTest {
 
     private static void newObject() {
         due.promise("1 new object");
-        BookingRows x = new BookingRows();
+        Calls x = new Calls();
         due.is("NONE", -1, BookingRows.NONE);
         due.is("used(0)", -1, x.used(0));
         due.is("booking(1, 0)", -1, x.booking(1, 0));
@@ -84,7 +71,7 @@ public final class PromisesTest {
 
     private static void thing() {
         due.promise("2 thing");
-        BookingRows x = new BookingRows();
+        Calls x = new Calls();
         due.is("place -1", -1, x.thing(-1, 1, 1, 0, 0));
         due.is("place 4", -1, x.thing(4, 1, 1, 0, 0));
         due.is("least 0", -1, x.thing(0, 0, 1, 0, 0));
@@ -107,7 +94,7 @@ public final class PromisesTest {
 
     private static void hours() {
         due.promise("3 hours");
-        BookingRows x = new BookingRows();
+        Calls x = new Calls();
         x.thing(0, 1, 1440, 100000, 0);
         x.thing(3, 1, 1440, 100000, 0);
         due.is("place -1", 0, x.hours(-1, 0, 1, 2));
@@ -143,7 +130,7 @@ public final class PromisesTest {
 
     private static void holiday() {
         due.promise("4 holiday");
-        BookingRows x = open();
+        Calls x = Scenes.open();
         due.is("before", 1, x.book(0, 0, DAY, DAY + 10));
         due.is("-1", 0, x.holiday(-1));
         due.is("695", 0, x.holiday(695));
@@ -165,7 +152,7 @@ public final class PromisesTest {
 
     private static void book() {
         due.promise("5 book");
-        BookingRows x = new BookingRows();
+        Calls x = new Calls();
         x.thing(0, 30, 240, 2000, 20);
         x.hours(0, 0, 480, 1200);
         x.hours(0, 1, 480, 1200);
@@ -197,7 +184,7 @@ public final class PromisesTest {
         due.is("before now", -3, x.book(1, 0, 899, 950));
         due.is("from now", 6, x.book(1, 0, 900, 950));
 
-        BookingRows late = open();
+        Calls late = Scenes.open();
         late.tick(999000);
         due.is("to the last time", 1, late.book(0, 0, 999990, 1000000));
         due.is("behind it", -1, late.book(0, 1, 999991, 1000001));
@@ -205,7 +192,7 @@ public final class PromisesTest {
 
     private static void bookInOrderOfReasons() {
         due.promise("5 book, order of reasons");
-        BookingRows x = new BookingRows();
+        Calls x = new Calls();
         x.thing(0, 30, 100, 3000, 0);
         x.hours(0, 0, 480, 1200);
         x.hours(0, 1, 480, 1200);
@@ -225,7 +212,7 @@ public final class PromisesTest {
 
     private static void bookHowMany() {
         due.promise("5 book, how many");
-        BookingRows x = open();
+        Calls x = Scenes.open();
         for (int i = 0; i < 4; i++) {
             due.is("four", i + 1, x.book(1, 0, 100 + i * 100, 200 + i * 100));
         }
@@ -240,7 +227,7 @@ public final class PromisesTest {
         due.is("a fifth", 8, x.book(1, 3, 200, 300));
         due.is("a sixth", -5, x.book(1, 3, 300, 400));
 
-        BookingRows full = open();
+        Calls full = Scenes.open();
         fillBookings(full, 199);
         due.is("the 200th", 200, full.book(0, 0, 100, 200));
         due.is("a 201st", 0, full.book(0, 0, 200, 300));
@@ -250,7 +237,7 @@ public final class PromisesTest {
 
     private static void recurring() {
         due.promise("6 recurring");
-        BookingRows x = open();
+        Calls x = Scenes.open();
         due.is("none such", 0, x.recurring(1, 1, 1));
         x.book(7, 0, 100, 200);
         due.is("booking 0", 0, x.recurring(0, 1, 1));
@@ -282,7 +269,7 @@ public final class PromisesTest {
 
     private static void recurringEnds() {
         due.promise("6 recurring, its end");
-        BookingRows x = new BookingRows();
+        Calls x = new Calls();
         x.thing(0, 10, 1440, 3 * DAY, 0);
         x.hours(0, 0, 0, 1440);
         x.hours(0, 2, 0, 1440);
@@ -292,7 +279,7 @@ public final class PromisesTest {
         due.is("the last", 3 * DAY, x.booking(3, 2));
         due.is("no more", -1, x.booking(4, 2));
 
-        BookingRows equipped = new BookingRows();
+        Calls equipped = new Calls();
         equipped.thing(0, 1, 1440, 100000, 0);
         equipped.thing(0, 200, 300, 100000, 0);
         for (int weekday = 0; weekday < 7; weekday++) {
@@ -305,14 +292,14 @@ public final class PromisesTest {
         due.is("without its equipment", 0, equipped.booking(4, 1));
         due.is("no more", -1, equipped.booking(5, 1));
 
-        BookingRows full = open();
+        Calls full = Scenes.open();
         fillBookings(full, 197);
         full.book(0, 0, 100, 200);
         due.is("up to 200", 2, full.recurring(198, 1, 20));
         due.is("the 200th", 2 * DAY + 100, full.booking(200, 2));
         due.is("no more", 0, full.recurring(198, 3, 1));
 
-        BookingRows late = open();
+        Calls late = Scenes.open();
         late.tick(998000);
         due.is("late", 1, late.book(0, 0, 998000, 998100));
         due.is("beyond all times", 1, late.recurring(1, 1, 20));
@@ -320,7 +307,7 @@ public final class PromisesTest {
 
     private static void cancel() {
         due.promise("7 cancel");
-        BookingRows x = open();
+        Calls x = Scenes.open();
         due.is("none such", 0, x.cancel(1, 0));
         x.book(3, 0, 100, 200);
         x.book(3, 0, 200, 300);
@@ -347,7 +334,7 @@ public final class PromisesTest {
         x.checkIn(3, 3);
         due.is("in, before it begins", 0, x.cancel(3, 3));
 
-        BookingRows equipped = open();
+        Calls equipped = Scenes.open();
         equipped.book(3, 0, 100, 200);
         equipped.equip(1, 1);
         equipped.equip(1, 2);
@@ -358,7 +345,7 @@ public final class PromisesTest {
         due.is("room", 1, equipped.cancel(1, 3));
         due.is("the other equipment", CANCELLED, equipped.booking(3, 4));
 
-        BookingRows in = open();
+        Calls in = Scenes.open();
         in.book(3, 0, 100, 200);
         in.equip(1, 1);
         in.tick(90);
@@ -369,7 +356,7 @@ public final class PromisesTest {
 
     private static void cancelServesWishes() {
         due.promise("7 cancel, wishes");
-        BookingRows x = open();
+        Calls x = Scenes.open();
         x.book(0, 0, 100, 400);
         x.book(0, 1, 100, 400);
         x.wish(1, 0, 100, 200, 5);
@@ -398,13 +385,13 @@ public final class PromisesTest {
         due.is("served later", 2, x.cancel(3, 3));
         due.is("by its turn", 4, x.booking(7, 0));
 
-        BookingRows once = open();
+        Calls once = Scenes.open();
         once.book(0, 0, 100, 200);
         once.wish(1, 0, 100, 200, 0);
         due.is("wish booked", 2, once.cancel(1, 0));
         due.is("a wish is booked once", 1, once.cancel(2, 1));
 
-        BookingRows sixty = open();
+        Calls sixty = Scenes.open();
         sixty.book(0, 0, 100, 200);
         for (int i = 0; i < 60; i++) {
             sixty.wish(1 + i % 30, 0, 100, 200, 60 - i);
@@ -412,7 +399,7 @@ public final class PromisesTest {
         due.is("one of 60", 2, sixty.cancel(1, 0));
         due.is("the last of them, by its rank", 30, sixty.booking(2, 0));
 
-        BookingRows elsewhere = open();
+        Calls elsewhere = Scenes.open();
         elsewhere.book(0, 0, 100, 200);
         elsewhere.book(0, 0, 500, 600);
         elsewhere.wish(1, 0, 100, 200, 0);
@@ -420,7 +407,7 @@ public final class PromisesTest {
         due.is("an edit books none", 1, elsewhere.person(1, 2));
         due.is("any cancel of the thing does", 2, elsewhere.cancel(2, 0));
 
-        BookingRows refused = open();
+        Calls refused = Scenes.open();
         refused.book(0, 0, 1000, 1400);
         refused.wish(1, 0, 1000, 1100, 0);
         refused.wish(2, 0, 1100, 1200, 0);
@@ -434,7 +421,7 @@ public final class PromisesTest {
         due.is("may be", 0, refused.person(2, 2));
         due.is("closed: stays", 1, refused.person(3, 2));
 
-        BookingRows full = open();
+        Calls full = Scenes.open();
         fillBookings(full, 198);
         full.book(0, 0, 100, 300);
         full.wish(1, 0, 100, 200, 0);
@@ -442,7 +429,7 @@ public final class PromisesTest {
         due.is("up to 200", 2, full.cancel(199, 0));
         due.is("no room: stays", 1, full.person(2, 2));
 
-        BookingRows five = open();
+        Calls five = Scenes.open();
         five.book(0, 0, 100, 1000);
         for (int i = 0; i < 7; i++) {
             five.wish(1, 0, 100 + i * 100, 200 + i * 100, 0);
@@ -453,7 +440,7 @@ public final class PromisesTest {
 
     private static void cancelServesEquipmentsWishes() {
         due.promise("7 cancel, equipment's wishes");
-        BookingRows x = open();
+        Calls x = Scenes.open();
         x.book(0, 2, 100, 200);
         x.equip(1, 3);
         x.equip(1, 0);
@@ -471,7 +458,7 @@ public final class PromisesTest {
         due.is("then its equipment's by numbers", 1, x.booking(8, 0));
         due.is("what was cancelled earlier frees no more", 1, x.person(5, 2));
 
-        BookingRows itself = open();
+        Calls itself = Scenes.open();
         itself.book(0, 2, 100, 200);
         itself.equip(1, 3);
         itself.wish(1, 3, 100, 200, 0);
@@ -483,7 +470,7 @@ public final class PromisesTest {
 
     private static void checkIn() {
         due.promise("8 checkIn");
-        BookingRows x = open();
+        Calls x = Scenes.open();
         due.is("none such", 0, x.checkIn(1, 0));
         x.book(3, 0, 100, 200);
         x.book(3, 0, 200, 300);
@@ -507,14 +494,14 @@ public final class PromisesTest {
         x.tick(321);
         due.is("no-show", 0, x.checkIn(4, 3));
 
-        BookingRows early = open();
+        Calls early = Scenes.open();
         early.book(0, 0, 10, 20);
         due.is("at 0", 1, early.checkIn(1, 0));
     }
 
     private static void checkInOfEquipment() {
         due.promise("8 checkIn, equipment");
-        BookingRows x = new BookingRows();
+        Calls x = new Calls();
         x.thing(0, 10, 1440, 100000, 60);
         x.thing(0, 10, 1440, 100000, 5);
         x.thing(0, 10, 1440, 100000, 70);
@@ -536,7 +523,7 @@ public final class PromisesTest {
         due.is("equipment with it", IN, x.booking(2, 4));
         due.is("another booking", BOOKED, x.booking(4, 4));
 
-        BookingRows gone = open();
+        Calls gone = Scenes.open();
         gone.book(3, 0, 100, 200);
         gone.equip(1, 1);
         gone.cancel(2, 3);
@@ -547,7 +534,7 @@ public final class PromisesTest {
 
     private static void edit() {
         due.promise("9 edit");
-        BookingRows x = new BookingRows();
+        Calls x = new Calls();
         x.thing(0, 30, 100, 3000, 20);
         x.thing(0, 30, 100, 3000, 20);
         x.hours(0, 0, 100, 1200);
@@ -582,7 +569,7 @@ public final class PromisesTest {
         x.cancel(3, 0);
         due.is("cancelled", 0, x.edit(3, 0, 700, 800));
 
-        BookingRows equipped = open();
+        Calls equipped = Scenes.open();
         equipped.book(0, 0, 100, 200);
         equipped.equip(1, 1);
         due.is("with equipment", 0, equipped.edit(1, 0, 300, 400));
@@ -596,14 +583,14 @@ public final class PromisesTest {
         due.is("with equipment no more", 1, equipped.edit(3, 0, 500, 600));
         due.is("cancelled equipment", 0, equipped.edit(4, 0, 500, 600));
 
-        BookingRows barred = barred(5);
+        Calls barred = barred(5);
         due.is("barred", -5, barred.book(5, 0, 900, 1000));
         due.is("not asked in an edit", 1, barred.edit(4, 5, 1000, 1100));
     }
 
     /** A person that is barred at 500 by bookings 1 to 3, and has booking 4 from 800 to 900. */
-    private static BookingRows barred(int person) {
-        BookingRows x = open();
+    private static Calls barred(int person) {
+        Calls x = Scenes.open();
         x.book(person, 0, 100, 200);
         x.book(person, 0, 200, 300);
         x.book(person, 0, 300, 400);
@@ -614,7 +601,7 @@ public final class PromisesTest {
 
     private static void equip() {
         due.promise("10 equip");
-        BookingRows x = new BookingRows();
+        Calls x = new Calls();
         x.thing(0, 10, 1440, 100000, 20);
         x.thing(0, 500, 600, 0, 20);
         x.thing(1, 10, 1440, 100000, 20);
@@ -650,20 +637,20 @@ public final class PromisesTest {
         x.cancel(3, 4);
         due.is("cancelled", 0, x.equip(3, 3));
 
-        BookingRows full = open();
+        Calls full = Scenes.open();
         fillBookings(full, 198);
         full.book(0, 0, 100, 200);
         full.book(0, 1, 100, 200);
         due.is("there are 200", 0, full.equip(199, 2));
         due.is("there are 200 before -6", 0, full.equip(199, 1));
 
-        BookingRows barred = barred(5);
+        Calls barred = barred(5);
         due.is("barred", 5, barred.equip(4, 1));
     }
 
     private static void wish() {
         due.promise("11 wish");
-        BookingRows x = open();
+        Calls x = Scenes.open();
         x.book(0, 0, 100, 200);
         due.is("person -1", 0, x.wish(-1, 0, 100, 200, 0));
         due.is("person 40", 0, x.wish(40, 0, 100, 200, 0));
@@ -677,7 +664,7 @@ public final class PromisesTest {
         due.is("-4", -1, x.wish(1, 0, 100, 200, 0));
         due.is("none waits", 0, x.person(1, 2));
 
-        BookingRows y = open();
+        Calls y = Scenes.open();
         y.book(0, 0, 100, 200);
         for (int i = 0; i < 5; i++) {
             y.book(1, 1, 100 + i * 100, 200 + i * 100);
@@ -697,7 +684,7 @@ public final class PromisesTest {
 
     private static void tick() {
         due.promise("12 tick");
-        BookingRows x = open();
+        Calls x = Scenes.open();
         due.is("0", -1, x.tick(0));
         due.is("-1", -1, x.tick(-1));
         due.is("1000001", -1, x.tick(1000001));
@@ -736,7 +723,7 @@ public final class PromisesTest {
 
     private static void tickBars() {
         due.promise("12 tick, barred");
-        BookingRows x = open();
+        Calls x = Scenes.open();
         x.book(5, 0, 100, 200);
         x.book(5, 0, 200, 300);
         x.tick(250);
@@ -767,7 +754,7 @@ public final class PromisesTest {
 
     private static void tickWithEquipment() {
         due.promise("12 tick, equipment");
-        BookingRows x = new BookingRows();
+        Calls x = new Calls();
         x.thing(0, 10, 1440, 100000, 60);
         x.thing(0, 10, 1440, 100000, 0);
         x.thing(0, 10, 1440, 100000, 120);
@@ -794,7 +781,7 @@ public final class PromisesTest {
         due.is("minutes", 100, x.used(3));
         due.is("minutes", 0, x.used(1));
 
-        BookingRows cancelled = open();
+        Calls cancelled = Scenes.open();
         cancelled.book(3, 0, 100, 200);
         cancelled.equip(1, 1);
         cancelled.cancel(2, 3);
@@ -804,7 +791,7 @@ public final class PromisesTest {
 
     private static void tickServesWishes() {
         due.promise("12 tick, wishes");
-        BookingRows x = open();
+        Calls x = Scenes.open();
         x.book(0, 2, 100, 400);
         x.equip(1, 3);
         x.equip(1, 0);
@@ -822,14 +809,14 @@ public final class PromisesTest {
         due.is("before now: stays", 1, x.person(3, 2));
         due.is("no-shows by wishes just booked", 0, x.person(5, 0));
 
-        BookingRows now = open();
+        Calls now = Scenes.open();
         now.book(0, 0, 100, 400);
         now.wish(1, 0, 121, 200, 0);
         due.is("no-show", 1, now.tick(121));
         due.is("from now", 1, now.booking(2, 0));
         due.is("state", BOOKED, now.booking(2, 4));
 
-        BookingRows done = open();
+        Calls done = Scenes.open();
         done.book(0, 0, 100, 400);
         done.wish(1, 0, 300, 400, 0);
         done.tick(100);
@@ -840,7 +827,7 @@ public final class PromisesTest {
 
     private static void tickServesAtOnce() {
         due.promise("12 tick, one after the other");
-        BookingRows x = open();
+        Calls x = Scenes.open();
         x.book(0, 0, 100, 900);
         for (int i = 0; i < 5; i++) {
             x.book(1, 1, 100 + i * 10, 110 + i * 10);
@@ -856,7 +843,7 @@ public final class PromisesTest {
         due.is("barred: stays", 2, x.person(1, 2));
         due.is("no-shows", 4, x.person(1, 0));
 
-        BookingRows own = open();
+        Calls own = Scenes.open();
         own.book(1, 0, 100, 900);
         own.book(1, 1, 100, 900);
         own.book(1, 2, 100, 900);
@@ -868,7 +855,7 @@ public final class PromisesTest {
         due.is("two were booked", 1, own.booking(5, 1));
         due.is("not the third", -1, own.booking(6, 1));
 
-        BookingRows ends = open();
+        Calls ends = Scenes.open();
         ends.book(1, 0, 200, 300);
         ends.book(2, 1, 100, 900);
         for (int i = 0; i < 4; i++) {
@@ -889,7 +876,7 @@ public final class PromisesTest {
 
     private static void clash() {
         due.promise("13 clash");
-        BookingRows x = open();
+        Calls x = Scenes.open();
         due.is("none there", false, x.clash(1, 1));
         x.book(0, 0, 100, 200);
         x.book(1, 0, 200, 300);
@@ -912,7 +899,7 @@ public final class PromisesTest {
 
     private static void booking() {
         due.promise("14 booking");
-        BookingRows x = open();
+        Calls x = Scenes.open();
         x.book(6, 2, 100, 250);
         x.equip(1, 3);
         due.is("person", 6, x.booking(1, 0));
@@ -933,7 +920,7 @@ public final class PromisesTest {
 
     private static void list() {
         due.promise("15 list");
-        BookingRows x = open();
+        Calls x = Scenes.open();
         x.book(6, 0, 500, 600);
         x.book(6, 1, 300, 400);
         x.book(6, 2, 500, 550);
@@ -969,7 +956,7 @@ public final class PromisesTest {
 
     private static void person() {
         due.promise("16 person");
-        BookingRows x = barred(5);
+        Calls x = barred(5);
         due.is("no-shows", 3, x.person(5, 0));
         due.is("barred", 1, x.person(5, 1));
         due.is("wishes", 0, x.person(5, 2));
@@ -990,7 +977,7 @@ public final class PromisesTest {
 
     private static void used() {
         due.promise("17 used");
-        BookingRows x = open();
+        Calls x = Scenes.open();
         due.is("thing -1", -1, x.used(-1));
         due.is("thing 5", -1, x.used(5));
         due.is("thing 4", 0, x.used(4));
@@ -1018,11 +1005,11 @@ public final class PromisesTest {
 
     private static void twoObjects() {
         due.promise("1 new object, apart from others");
-        BookingRows x = open();
+        Calls x = Scenes.open();
         x.book(0, 0, 100, 200);
         x.holiday(3);
         x.tick(500);
-        BookingRows y = new BookingRows();
+        Calls y = new Calls();
         due.is("no things", -1, y.used(0));
         due.is("no bookings", -1, y.booking(1, 0));
         due.is("no holidays", 1, y.holiday(3));

@@ -67,6 +67,23 @@ final class Scenes {
         return x;
     }
 
+    /**
+     * As equipped, with one thing more; but with three bookings that come later, person 1 has six,
+     * and so its wish for thing 0 may be only when booking 1 and its equipment live no more.
+     */
+    static Calls sixWithEquipment() {
+        Calls x = booked();
+        x.book(2, 0, 300, 400);
+        x.wish(1, 0, 300, 350, 0);
+        for (int i = 0; i < 3; i++) {
+            x.book(1, 3, 1000 + i * 10, 1010 + i * 10);
+        }
+        x.equip(1, 1);
+        x.equip(1, 2);
+        x.edit(2, 2, 500, 600);
+        return x;
+    }
+
     /** A person that is barred from 100 on, until 10180, by bookings 1 to 3, which were thing 3. */
     static Calls barred(int person) {
         Calls x = open();

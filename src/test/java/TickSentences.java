@@ -204,17 +204,8 @@ final class TickSentences {
         due.is("then its equipment's by numbers", 10, x.personOf(6));
     }
 
-    /** With its equipment the person has six, and so no wish, until all of it is a no-show. */
     private static void freesAllOfItFirst(Due due) {
-        Calls x = Scenes.booked();
-        x.book(2, 0, 300, 400);
-        x.wish(1, 0, 300, 350, 0);
-        for (int i = 0; i < 3; i++) {
-            x.book(1, 3, 1000 + i * 10, 1010 + i * 10);
-        }
-        x.equip(1, 1);
-        x.equip(1, 2);
-        x.edit(2, 2, 500, 600);
+        Calls x = Scenes.sixWithEquipment();
         due.is("one", 1, x.tick(121));
         due.is("its wish is booked", 1, x.personOf(8));
     }
