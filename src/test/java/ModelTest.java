@@ -8,9 +8,9 @@ public final class ModelTest {
     private static final int RUNS = 5000;
     private static final int CALLS = 512;
     private static final int[] WILD = {
-        Integer.MIN_VALUE, Integer.MIN_VALUE + 1, -1441, -2, -1, 0, 1, 2, 29, 30, 39, 40, 41, 60,
-        61, 199, 200, 201, 694, 695, 1440, 1441, 99999, 100001, 999999, 1000000, 1000001,
-        Integer.MAX_VALUE - 1, Integer.MAX_VALUE
+        Integer.MIN_VALUE, Integer.MIN_VALUE + 1, -1441, -2, -1, 0, 1, 2, 3, 4, 6, 7, 20, 21, 29,
+        30, 39, 40, 41, 60, 61, 120, 121, 199, 200, 201, 694, 695, 1440, 1441, 99999, 100001,
+        999999, 1000000, 1000001, Integer.MAX_VALUE - 1, Integer.MAX_VALUE
     };
 
     private final Due due;
@@ -18,12 +18,14 @@ public final class ModelTest {
     private final BookingRows rows = new BookingRows();
     private final PlainModel model = new PlainModel();
     private final Map<String, Integer> seen;
+    private final boolean isCrowded;
     private final int persons;
     private final int things;
     private final int span;
     private final int wildness;
     private final int haste;
     private int now = 0;
+    private int lastNoShow = 0;
     private int made = 0;
     private int calls = 0;
 
@@ -31,10 +33,11 @@ public final class ModelTest {
         this.due = due;
         this.random = new Random(seed);
         this.seen = seen;
-        this.persons = 1 + random.nextInt(random.nextBoolean() ? 4 : 40);
-        this.things = 1 + random.nextInt(random.nextInt(8) == 0 ? 30 : 5);
-        this.span = random.nextInt(3) == 0 ? 20000 : 1200;
-        this.wildness = random.nextInt(4) == 0 ? 3 : 60;
+        this.isCrowded = random.nextInt(5) == 0;
+        this.persons = isCrowded ? 40 : 1 + random.nextInt(random.nextBoolean() ? 4 : 40);
+        this.things = 1 + random.nextInt(isCrowded || random.nextInt(8) == 0 ? 30 : 5);
+        this.span = isCrowded || random.nextInt(3) == 0 ? 20000 : 1200;
+        this.wildness = !isCrowded && random.nextInt(4) == 0 ? 3 : 60;
         this.haste = 1 + random.nextInt(random.nextBoolean() ? 10 : 120);
     }
 
@@ -69,6 +72,10 @@ public final class ModelTest {
             String name = answer.substring(0, answer.indexOf(' '));
             due.is(name, true, seen.containsKey("the last was " + name));
         }
+        due.promise("some runs came to it");
+        for (String full : new String[] {"thing = 29", "holiday = 40", "wish = 60", "200 made"}) {
+            due.is(full, true, seen.containsKey(full));
+        }
     }
 
     private void run() {
@@ -78,8 +85,35 @@ public final class ModelTest {
         for (int i = 0; i < 12; i++) {
             hours();
         }
+        if (isCrowded) {
+            crowd();
+        }
         while (calls < CALLS && due.wrong() == 0) {
             any();
+        }
+        seen.merge(made + " made", 1, Integer::sum);
+    }
+
+    /** Only with most of their calls for it do runs come to 200 bookings, 60 wishes, 40 days. */
+    private void crowd() {
+        for (int weekday = 0; weekday < 7; weekday++) {
+            hours(0, weekday, 0, 1440);
+            hours(1, weekday, 0, 1440);
+        }
+        int holidays = random.nextInt(4) == 0 ? 60 : 0;
+        boolean manyWishes = random.nextInt(3) == 0;
+        int most = 300 + random.nextInt(200);
+        while (calls < most && due.wrong() == 0) {
+            switch (random.nextInt(manyWishes ? 12 : 8)) {
+                case 0, 1: equip(); break;
+                case 2, 3: recurring(); break;
+                case 4, 5, 6: book(); break;
+                default: wish(); break;
+            }
+            if (holidays > 0) {
+                holidays--;
+                holiday();
+            }
         }
     }
 
@@ -146,6 +180,7 @@ public final class ModelTest {
         due.is(name + arguments, want, got);
         String kind = want > 0 ? "+" : String.valueOf(want);
         seen.merge(name + " " + kind, 1, Integer::sum);
+        seen.merge(name + " = " + want, 1, Integer::sum);
         if (name.equals("cancel") && want > 1) {
             seen.merge("cancel ++", 1, Integer::sum);
         }
@@ -159,10 +194,11 @@ public final class ModelTest {
     }
 
     private void thing() {
-        int place = orWild(random.nextInt(3) == 0 ? 1 : 0);
+        int place = orWild(random.nextInt(isCrowded ? 20 : 3) == 0 ? 1 : 0);
         int least = orWild(1 + random.nextInt(30));
         int most = orWild(100 + random.nextInt(1341));
-        int ahead = orWild(random.nextInt(3) == 0 ? random.nextInt(3000) : 100000);
+        boolean isNear = !isCrowded && random.nextInt(3) == 0;
+        int ahead = orWild(isNear ? random.nextInt(3000) : 100000);
         int grace = orWild(random.nextInt(121));
         answer("thing", text(place, least, most, ahead, grace),
                 model.thing(place, least, most, ahead, grace),
@@ -175,12 +211,16 @@ public final class ModelTest {
         boolean none = random.nextInt(8) == 0;
         int from = orWild(none || random.nextBoolean() ? 0 : random.nextInt(60) * 10);
         int to = orWild(none ? 0 : random.nextBoolean() ? 1440 : 1440 - random.nextInt(90) * 10);
+        hours(place, weekday, from, to);
+    }
+
+    private void hours(int place, int weekday, int from, int to) {
         answer("hours", text(place, weekday, from, to), model.hours(place, weekday, from, to),
                 rows.hours(place, weekday, from, to));
     }
 
     private void holiday() {
-        int day = orWild(now / 1440 + random.nextInt(30));
+        int day = orWild(now / 1440 + random.nextInt(isCrowded ? 300 : 30));
         answer("holiday", text(day), model.holiday(day), rows.holiday(day));
     }
 
@@ -262,13 +302,17 @@ public final class ModelTest {
         if (random.nextInt(60) == 0) {
             t += random.nextInt(11000);
         }
-        t = random.nextInt(20) == 0 ? WILD[random.nextInt(12)] : t;
+        if (random.nextInt(30) == 0) {
+            t = lastNoShow + 10079 + random.nextInt(3);
+        }
+        t = random.nextInt(20) == 0 ? WILD[random.nextInt(17)] : t;
         if (random.nextInt(2000) == 0) {
-            t = 1000000 - random.nextInt(5000);
+            t = 1000000 - random.nextInt(random.nextBoolean() ? 3 : 5000);
         }
         int want = model.tick(t);
         answer("tick", text(t), want, rows.tick(t));
         now = want == -1 ? now : t;
+        lastNoShow = want > 0 ? t : lastNoShow;
         countMade();
         lookAround();
     }
